@@ -361,24 +361,12 @@ public final class LinageOffice {
 
     public int known(int word) throws IndexOutOfBoundsException, UnsupportedOperationException,
             NoSuchElementException {
-        needWord(word);
-        needFact(word);
-        int earliest = earliestWith(word);
-        if (earliest == NONE) {
-            throw new NoSuchElementException("no story has that fact");
-        }
-        return stories[earliest].filed;
+        return stories[firstWith(word)].filed;
     }
 
     public int first(int word) throws IndexOutOfBoundsException, UnsupportedOperationException,
             NoSuchElementException {
-        needWord(word);
-        needFact(word);
-        int earliest = earliestWith(word);
-        if (earliest == NONE) {
-            throw new NoSuchElementException("no story has that fact");
-        }
-        return earliest;
+        return firstWith(word);
     }
 
     public int contradictions(int event) throws IllegalArgumentException {
@@ -699,7 +687,9 @@ public final class LinageOffice {
 
     // ---- facts
 
-    private int earliestWith(int word) {
+    private int firstWith(int word) {
+        needWord(word);
+        needFact(word);
         int earliest = NONE;
         for (int i = 0; i < storyCount; i++) {
             Story story = stories[i];
@@ -707,6 +697,9 @@ public final class LinageOffice {
                     && (earliest == NONE || story.filed < stories[earliest].filed)) {
                 earliest = i;
             }
+        }
+        if (earliest == NONE) {
+            throw new NoSuchElementException("no story has that fact");
         }
         return earliest;
     }
@@ -918,6 +911,9 @@ public final class LinageOffice {
 
     /** How a story is set: for each number of its first words, these set by themselves. */
     private static final class Setting {
+        // Sixty lines, each with all of the widest measure left, have less.
+        private static final int MORE_THAN_ANY = 100000;
+
         final int[] linesOf = new int[MOST_LENGTH + 1];
         final int[] badnessOf = new int[MOST_LENGTH + 1];
         // The same of first words behind which more follow: then their last line's badness counts too.
@@ -926,7 +922,8 @@ public final class LinageOffice {
 
         void arrange(Story story, Word[] words, int measure) {
             for (int end = 1; end <= story.size; end++) {
-                forget(end);
+                badnessOf[end] = MORE_THAN_ANY;
+                fullBadness[end] = MORE_THAN_ANY;
                 int signs = words[story.text[end - 1]].letters;
                 for (int begin = end - 1; begin >= 0 && signs <= measure; begin--) {
                     tryLastLine(begin, end, measure - signs);
@@ -935,13 +932,6 @@ public final class LinageOffice {
                     }
                 }
             }
-        }
-
-        private void forget(int end) {
-            linesOf[end] = Integer.MAX_VALUE;
-            badnessOf[end] = Integer.MAX_VALUE;
-            fullLines[end] = Integer.MAX_VALUE;
-            fullBadness[end] = Integer.MAX_VALUE;
         }
 
         private void tryLastLine(int begin, int end, int left) {

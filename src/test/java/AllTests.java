@@ -11,6 +11,7 @@ public final class AllTests {
         RunTest.runAll(check);
         LikenessTest.runAll(check);
         FigureTest.runAll(check);
+        SoundTest.runAll(check);
         RandomRunsTest.runAll(check);
         RoomTest.runAll(check);
         System.out.println(check.passed() + " passed, " + check.failed() + " failed");

@@ -17,6 +17,7 @@ final class LikenessTest {
         sources(check);
         areOne(check);
         fiftyHundredths(check);
+        fortyNineHundredths(check);
         known(check);
         first(check);
         factsWrong(check);
@@ -216,6 +217,22 @@ final class LikenessTest {
         check.due("32: three of seven", office.likeness(2, 3), 42);
         check.due("34: less is not", office.areOne(2, 3), false);
         check.due("33: two sources", office.sources(1), 2);
+    }
+
+    private static void fortyNineHundredths(Check check) {
+        LinageOffice office = Desk.withKinds("ffffffffffffffffffffffffffffff");
+        for (int story = 0; story < 2; story++) {
+            office.file(0, 0);
+            for (int i = 0; i < 27; i++) {
+                office.write(story, i);
+            }
+            for (int i = 0; i < 13; i++) {
+                office.write(story, 27 + story - 2 * i);
+            }
+        }
+        check.due("32: 25 of 51", office.likeness(0, 1), 49);
+        check.due("34: not enough", office.areOne(0, 1), false);
+        check.due("33: not enough", office.sources(0), 2);
     }
 
     private static void known(Check check) {

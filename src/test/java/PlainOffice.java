@@ -3,7 +3,6 @@ import java.util.HashSet;
 import java.util.List;
 import java.util.NoSuchElementException;
 import java.util.Set;
-import java.util.TreeSet;
 
 /** The document once more, written as plainly as can be and in other ways than the class, to compare with it. */
 public final class PlainOffice {
@@ -298,11 +297,12 @@ public final class PlainOffice {
 
     public int sources(int event) {
         argument(event >= 0 && event <= 9);
+        boolean[][] joined = joined();
         int sum = 0;
         for (int i = 0; i < stories.size(); i++) {
             boolean isFirst = stories.get(i).event == event;
             for (int k = 0; k < i; k++) {
-                isFirst &= !areOne(k, i);
+                isFirst &= !joined[k][i];
             }
             sum += isFirst ? 1 : 0;
         }
@@ -312,17 +312,7 @@ public final class PlainOffice {
     public boolean areOne(int story, int other) {
         bounds(story, stories);
         bounds(other, stories);
-        TreeSet<Integer> joined = new TreeSet<>(List.of(story));
-        for (int turn = 0; turn < stories.size(); turn++) {
-            for (int i = 0; i < stories.size(); i++) {
-                for (int from : joined.toArray(new Integer[0])) {
-                    if (stories.get(i).event == stories.get(from).event && likeness(i, from) >= 50) {
-                        joined.add(i);
-                    }
-                }
-            }
-        }
-        return joined.contains(other);
+        return joined()[story][other];
     }
 
     public int known(int word) {
@@ -484,6 +474,24 @@ public final class PlainOffice {
             rows.add(List.copyOf(text.subList(i, i + 3)));
         }
         return rows;
+    }
+
+    private boolean[][] joined() {
+        int size = stories.size();
+        boolean[][] joined = new boolean[size][size];
+        for (int i = 0; i < size; i++) {
+            for (int k = 0; k < size; k++) {
+                joined[i][k] = i == k || stories.get(i).event == stories.get(k).event && likeness(i, k) >= 50;
+            }
+        }
+        for (int by = 0; by < size; by++) {
+            for (int i = 0; i < size; i++) {
+                for (int k = 0; k < size; k++) {
+                    joined[i][k] |= joined[i][by] && joined[by][k];
+                }
+            }
+        }
+        return joined;
     }
 
     private Set<Integer> factsOf(int event) {

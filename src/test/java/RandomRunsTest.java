@@ -1,45 +1,58 @@
 import java.lang.reflect.InvocationTargetException;
 import java.lang.reflect.Method;
+import java.lang.reflect.Modifier;
 import java.util.Arrays;
 import java.util.Comparator;
+import java.util.HashMap;
+import java.util.Map;
 
 /** Long runs of calls, the same for the class and for the plain office; each answer must be the same. */
 final class RandomRunsTest {
-    private static final int RUNS = 400;
+    private static final int RUNS = 240;
     private static final int CALLS = 512;
-    private static final int SETUP = 60;
-    /** Behind a call's name how often it is drawn, and from where to where each argument goes. */
+    /**
+     * Behind a call's name how often it is drawn, and of what kind each argument is: a word, a hand, a story, a paper,
+     * a run, a place in the story, some lines, a sum, or from where to where it goes.
+     */
     private static final String[][] CALL_RANGES = {
-        {"addWord", "6", "0 13", "0 5", "-1 10"}, {"addHand", "1"}, {"file", "4", "-1 4", "-1 10"},
-        {"fork", "6", "-1 4", "-1 20"}, {"write", "60", "-1 20", "-1 30"}, {"correct", "12", "-1 20", "-1 60", "-1 30"},
-        {"length", "2", "-1 20"}, {"wordAt", "3", "-1 20", "-1 60"}, {"depth", "3", "-1 20"}, {"setStrike", "1", "0 1"},
-        {"pass", "8", "0 100"}, {"hour", "1"}, {"addPaper", "3", "-1 3", "11 41", "0 100", "-1 1000", "-1 101"},
-        {"count", "6", "-1 20", "-1 5"}, {"lines", "6", "-1 20", "-1 5"}, {"badness", "6", "-1 20", "-1 5"},
-        {"fits", "6", "-1 20", "-1 5", "-1 100"}, {"ban", "3", "-1 5", "-1 30", "0 1"}, {"breaches", "3", "-1 20", "-1 5"},
-        {"setExclusive", "4", "-1 20", "0 1"}, {"run", "12", "-1 20", "-1 5", "0 100"}, {"ran", "4", "-1 30"},
-        {"pay", "6", "-1 30"}, {"owed", "4", "-1 5", "-1 4"}, {"claim", "4", "-1 4", "-1 5", "-1 100000"},
-        {"settle", "3", "-1 4", "-1 5"}, {"paid", "3", "-1 4"}, {"padding", "4", "-1 20"},
-        {"isPadding", "6", "-1 20", "-1 60"}, {"shingles", "4", "-1 20"}, {"likeness", "8", "-1 20", "-1 20"},
-        {"sources", "4", "-1 10"}, {"areOne", "4", "-1 20", "-1 20"}, {"known", "4", "-1 30"}, {"first", "4", "-1 30"},
-        {"contradictions", "4", "-1 10"}, {"checksum", "2"}, {"ranShare", "2"}, {"meanPay", "2"}, {"isSound", "2"},
+        {"addWord", "6", "1 12", "kind", "0 9"}, {"addHand", "1"}, {"file", "4", "hand", "0 9"},
+        {"fork", "6", "hand", "story"}, {"write", "60", "story", "word"}, {"correct", "12", "story", "place", "word"},
+        {"length", "2", "story"}, {"wordAt", "3", "story", "place"}, {"depth", "3", "story"}, {"setStrike", "1", "0 1"},
+        {"pass", "8", "1 99"}, {"hour", "1"}, {"addPaper", "1", "0 2", "12 40", "1 99", "0 999", "0 100"},
+        {"count", "6", "story", "paper"}, {"lines", "6", "story", "paper"}, {"badness", "6", "story", "paper"},
+        {"fits", "6", "story", "paper", "lines"}, {"ban", "3", "paper", "word", "0 1"},
+        {"breaches", "3", "story", "paper"}, {"setExclusive", "4", "story", "0 1"},
+        {"run", "12", "story", "paper", "lines"}, {"ran", "4", "run"}, {"pay", "6", "run"}, {"owed", "4", "paper", "hand"},
+        {"claim", "4", "hand", "paper", "sum"}, {"settle", "3", "hand", "paper"}, {"paid", "3", "hand"},
+        {"padding", "4", "story"}, {"isPadding", "6", "story", "place"}, {"shingles", "4", "story"},
+        {"likeness", "8", "story", "story"}, {"sources", "4", "0 9"}, {"areOne", "4", "story", "story"},
+        {"known", "4", "word"}, {"first", "4", "word"}, {"contradictions", "4", "0 9"}, {"checksum", "2"},
+        {"ranShare", "2"}, {"meanPay", "2"}, {"isSound", "2"},
     };
+    private static final Method[] OFFICE_CALLS = byName(LinageOffice.class);
+    private static final Method[] PLAIN_CALLS = byName(PlainOffice.class);
 
     private final Check check;
     private final int run;
-    private final Method[] calls = byName(LinageOffice.class);
-    private final Method[] plainCalls = byName(PlainOffice.class);
+    private final boolean isFew;
+    private final boolean isLate;
     private final LinageOffice office = new LinageOffice();
     private final PlainOffice plain = new PlainOffice();
+    private final Map<String, Integer> made = new HashMap<>();
+    private int called;
     private long seed;
 
     private RandomRunsTest(Check check, int run) {
         this.check = check;
         this.run = run;
+        // Few words and events make stories alike; runs that come late let stories grow long.
+        this.isFew = run % 2 == 1;
+        this.isLate = run % 4 > 1;
         this.seed = run;
     }
 
     static void runAll(Check check) {
-        check.due("each call has its ranges", CALL_RANGES.length, byName(LinageOffice.class).length);
+        check.due("each call has its ranges", CALL_RANGES.length, OFFICE_CALLS.length);
         for (int run = 0; run < RUNS; run++) {
             new RandomRunsTest(check, run).compare();
         }
@@ -47,32 +60,33 @@ final class RandomRunsTest {
 
     private static Method[] byName(Class<?> type) {
         return Arrays.stream(type.getDeclaredMethods())
-            .filter(method -> java.lang.reflect.Modifier.isPublic(method.getModifiers()))
+            .filter(method -> Modifier.isPublic(method.getModifiers()))
             .sorted(Comparator.comparing(Method::getName))
             .toArray(Method[]::new);
     }
 
     private void compare() {
         int alike = 0;
-        for (int call = 0; call < CALLS; call++) {
-            String[] drawn = call < SETUP ? drawSetup(call) : draw();
-            alike += isAlike(drawn) ? 1 : 0;
+        for (called = 0; called < CALLS; called++) {
+            alike += isAlike(drawCall()) ? 1 : 0;
         }
         check.due("run " + run + ": answers that are alike", alike, CALLS);
     }
 
     private boolean isAlike(String[] drawn) {
         int place = 0;
-        while (!calls[place].getName().equals(drawn[0])) {
+        while (!OFFICE_CALLS[place].getName().equals(drawn[0])) {
             place++;
         }
         Object[] arguments = new Object[drawn.length - 2];
         for (int i = 0; i < arguments.length; i++) {
-            String[] range = drawn[i + 2].split(" ");
-            arguments[i] = argument(calls[place], i, Integer.parseInt(range[0]), Integer.parseInt(range[1]));
+            arguments[i] = argument(OFFICE_CALLS[place].getParameterTypes()[i], drawn[i + 2], arguments[0]);
         }
-        String got = answer(calls[place], office, arguments);
-        String due = answer(plainCalls[place], plain, arguments);
+        String got = answer(OFFICE_CALLS[place], office, arguments);
+        String due = answer(PLAIN_CALLS[place], plain, arguments);
+        if (!due.startsWith("throws")) {
+            made.merge(drawn[0], 1, Integer::sum);
+        }
         if (!got.equals(due)) {
             check.dueText("run " + run + ": " + drawn[0] + Arrays.toString(arguments), got, due);
         }
@@ -89,54 +103,81 @@ final class RandomRunsTest {
         }
     }
 
-    private Object argument(Method call, int place, int least, int most) {
-        Class<?> type = call.getParameterTypes()[place];
-        int number = draw(least, most);
-        // The edges of a range are drawn seldom: a state that is all refusals shows little.
-        if ((number == least || number == most) && most - least > 2 && draw(0, 9) > 0) {
-            number = draw(least + 1, most - 1);
-        }
+    private Object argument(Class<?> type, String kind, Object story) {
         if (type == boolean.class) {
             return draw(0, 1) == 1;
         }
         if (type == char.class) {
-            return "fetqhx".charAt(number);
+            return draw(0, 20) == 0 ? 'x' : "ffffetqh".charAt(draw(0, 7));
         }
-        String name = call.getName();
-        boolean isFew = (run & 1) == 1 && number > 3 && !name.equals("addPaper") && !name.equals("addWord");
-        boolean isLines = place == 2 && (name.equals("run") || name.equals("fits")) && draw(0, 4) > 0;
-        return isFew && draw(0, 3) > 0 || isLines ? number % 4 : number;
+        int[] range = range(kind, story);
+        // Wrong numbers are drawn seldom: a run of refusals shows little.
+        if (draw(0, 40) == 0) {
+            return draw(0, 1) == 0 ? range[0] - 1 : range[1] + 1;
+        }
+        return draw(range[0], Math.max(range[0], range[1]));
     }
 
-    /** Without words, hands and papers nothing can be asked: so each run begins with some. */
-    private String[] drawSetup(int call) {
-        if (call < 3) {
-            return range("addHand");
+    private int[] range(String kind, Object story) {
+        switch (kind) {
+            case "word":
+                return new int[] {0, Math.min(many("addWord"), isFew ? 4 : 30) - 1};
+            case "hand":
+                return new int[] {0, many("addHand") - 1};
+            case "story":
+                return new int[] {0, many("file") + many("fork") - 1};
+            case "paper":
+                return new int[] {0, many("addPaper") - 1};
+            case "run":
+                return new int[] {0, many("run") - 1};
+            case "place":
+                int number = (Integer) story;
+                boolean isThere = number >= 0 && number < many("file") + many("fork");
+                return new int[] {0, isThere ? plain.length(number) - 1 : 0};
+            case "lines":
+                return new int[] {0, draw(0, 3) == 0 ? 99 : 9};
+            case "sum":
+                return new int[] {0, draw(0, 3) == 0 ? 99999 : 2000};
+            default:
+                String[] ends = kind.split(" ");
+                return new int[] {Integer.parseInt(ends[0]), isFew && kind.equals("0 9") ? 1 : Integer.parseInt(ends[1])};
         }
-        if (call < 20) {
-            return range("addWord");
-        }
-        if (call < 24) {
-            return range("addPaper");
-        }
-        return range(call < 28 ? "file" : "write");
     }
 
-    private String[] draw() {
+    private int many(String call) {
+        return made.getOrDefault(call, 0);
+    }
+
+    private String[] drawCall() {
+        // Without hands, words, papers and stories little can be asked: so each run begins with some.
+        String[] begin = {"addHand", "addHand", "addWord", "addWord", "addWord", "addWord", "addWord", "addWord",
+            "addPaper", "addPaper", "addPaper", "addPaper", "file", "file"};
+        if (called < begin.length) {
+            return row(begin[called]);
+        }
         int sum = 0;
         for (String[] row : CALL_RANGES) {
-            sum += Integer.parseInt(row[1]);
+            sum += weight(row);
         }
         int left = draw(0, sum - 1);
         int place = 0;
-        while (left >= Integer.parseInt(CALL_RANGES[place][1])) {
-            left -= Integer.parseInt(CALL_RANGES[place][1]);
+        while (left >= weight(CALL_RANGES[place])) {
+            left -= weight(CALL_RANGES[place]);
             place++;
         }
         return CALL_RANGES[place];
     }
 
-    private static String[] range(String name) {
+    private int weight(String[] row) {
+        int weight = Integer.parseInt(row[1]);
+        boolean isRun = row[0].equals("run");
+        if (isLate && called < CALLS / 2) {
+            return isRun ? 0 : row[0].equals("write") ? 3 * weight : weight;
+        }
+        return isLate && isRun ? 4 * weight : weight;
+    }
+
+    private static String[] row(String name) {
         return Arrays.stream(CALL_RANGES).filter(row -> row[0].equals(name)).findFirst().orElseThrow();
     }
 
