@@ -8,6 +8,7 @@ public final class AllTests {
         FaceTest.runAll(check);
         StoryTest.runAll(check);
         PaperTest.runAll(check);
+        SettingTest.runAll(check);
         RunTest.runAll(check);
         LikenessTest.runAll(check);
         FigureTest.runAll(check);

@@ -129,6 +129,10 @@ final class PaperTest {
         lines(check, 3, 64 + 0, 12, 4, 12, 1);
         // The last line may be short at no cost: 5 6 | 1, not 5 | 6 1.
         lines(check, 2, 0, 12, 5, 6, 1);
+        // Two words a line are 11 lines with 9 left in one of them; one word behind, 12 lines leave 2, and 9 times 1.
+        lines(check, 12, 4 + 9, 12, 10, 1, 9, 2, 8, 3, 7, 4, 6, 5, 5, 6, 4, 7, 3, 8, 2, 9, 1, 1, 10, 1);
+        // Two words a line leave 3 once; one word behind, a line more, they leave 2 once and 1 five times: as bad.
+        lines(check, 7, 9, 12, 10, 1, 9, 2, 8, 3, 7, 4, 6, 5, 5, 3, 8, 1);
     }
 
     private static void fits(Check check) {

@@ -12,12 +12,14 @@ final class SoundTest {
     static void runAll(Check check) {
         check.due("41: the office before it is broken", soundOffice().isSound(), true);
         broken(check, "a run without words", "runs", 1, "size", 0);
+        broken(check, "a first run without words", "runs", 0, "size", 0);
         broken(check, "a run with more words than its story has", "runs", 1, "size", 4);
         broken(check, "a run without room for its lines", "runs", 2, "room", 1);
         broken(check, "a run with room enough", "runs", 2, "room", 2, true);
         broken(check, "a story in one paper twice", "runs", 1, "paper", 0);
         broken(check, "a first run in the paper of another", "runs", 0, "paper", 1);
         broken(check, "more settled than paid", "runs", 2, "settled", true, true);
+        broken(check, "a paid run that is not settled", "runs", 0, "settled", false);
         broken(check, "less pay than was paid", "runs", 0, "sum", 1);
         broken(check, "a story that comes from itself", "stories", 0, "source", 0);
         broken(check, "a story that comes from its version", "stories", 0, "source", 1);
