@@ -22,7 +22,8 @@ final class RandomRunsTest {
         {"count", "6", "story", "paper"}, {"lines", "6", "story", "paper"}, {"badness", "6", "story", "paper"},
         {"fits", "6", "story", "paper", "lines"}, {"ban", "3", "paper", "word", "0 1"},
         {"breaches", "3", "story", "paper"}, {"setExclusive", "4", "story", "0 1"},
-        {"run", "12", "story", "paper", "lines"}, {"ran", "4", "run"}, {"pay", "6", "run"}, {"owed", "4", "paper", "hand"},
+        {"run", "12", "story", "paper", "lines"}, {"ran", "4", "run"}, {"pay", "6", "run"},
+        {"owed", "4", "paper", "hand"},
         {"claim", "4", "hand", "paper", "sum"}, {"settle", "3", "hand", "paper"}, {"paid", "3", "hand"},
         {"padding", "4", "story"}, {"isPadding", "6", "story", "place"}, {"shingles", "4", "story"},
         {"likeness", "8", "story", "story"}, {"sources", "4", "0 9"}, {"areOne", "4", "story", "story"},
@@ -140,7 +141,8 @@ final class RandomRunsTest {
                 return new int[] {0, draw(0, 3) == 0 ? 99999 : 2000};
             default:
                 String[] ends = kind.split(" ");
-                return new int[] {Integer.parseInt(ends[0]), isFew && kind.equals("0 9") ? 1 : Integer.parseInt(ends[1])};
+                int most = isFew && kind.equals("0 9") ? 1 : Integer.parseInt(ends[1]);
+                return new int[] {Integer.parseInt(ends[0]), most};
         }
     }
 
