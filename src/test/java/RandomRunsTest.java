@@ -114,7 +114,8 @@ final class RandomRunsTest {
         int[] range = range(kind, story);
         // Wrong numbers are drawn seldom: a run of refusals shows little.
         if (draw(0, 40) == 0) {
-            return draw(0, 1) == 0 ? range[0] - 1 : range[1] + 1;
+            int[] wrong = {range[0] - 1, range[1] + 1, Integer.MIN_VALUE, Integer.MAX_VALUE};
+            return wrong[draw(0, 3)];
         }
         return draw(range[0], Math.max(range[0], range[1]));
     }
