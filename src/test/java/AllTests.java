@@ -13,6 +13,11 @@ public final class AllTests {
         LikenessTest.runAll(check);
         FigureTest.runAll(check);
         SoundTest.runAll(check);
+        NumberTest.runAll(check);
+        LimitTest.runAll(check);
+        RefusalTest.runAll(check);
+        EmptyTest.runAll(check);
+        HourTest.runAll(check);
         RandomRunsTest.runAll(check);
         RoomTest.runAll(check);
         System.out.println(check.passed() + " passed, " + check.failed() + " failed");

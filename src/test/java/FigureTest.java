@@ -1,3 +1,5 @@
+import java.math.BigInteger;
+
 /** Promises 38 to 41: figures. */
 final class FigureTest {
     private FigureTest() {
@@ -6,6 +8,8 @@ final class FigureTest {
     static void runAll(Check check) {
         checksum(check);
         checksumChangesNothing(check);
+        checksumGoesRound(check);
+        checksumOfMany(check);
         ranShare(check);
         meanPay(check);
         isSound(check);
@@ -53,6 +57,69 @@ final class FigureTest {
         long before = office.checksum();
         check.due("38: again", office.checksum(), before);
         check.due("38: beyond an int", before != (int) before, true);
+    }
+
+    /** A story of so many words 0, filed by a hand in hour 0: with its hour, the hand and the hour three rows more. */
+    private static LinageOffice ofZeros(int words) {
+        LinageOffice office = Desk.withKinds("ff");
+        office.file(0, 0);
+        for (int i = 0; i < words; i++) {
+            office.write(0, 0);
+        }
+        return office;
+    }
+
+    private static void checksumGoesRound(Check check) {
+        // 7 times 31 to the 12th, the 13th, .., less 2 to the 64th as often as it takes; worked out by another program.
+        check.due("38: the most that is in a long", ofZeros(9).checksum(), 5513639486519848327L);
+        check.due("38: 31 times itself goes round", ofZeros(10).checksum(), 4902127418729333593L);
+        check.due("38: it goes round twice", ofZeros(11).checksum(), 4391997390932928455L);
+        check.due("38: thrice", ofZeros(12).checksum(), 7024710602953920793L);
+        check.due("38: below 0", ofZeros(13).checksum(), -3594900192943074809L);
+        LinageOffice word = ofZeros(12);
+        word.write(0, 1);
+        check.due("38: round at a word, then three rows", word.checksum(), sumRound(13, 31L * 31 * 31));
+        LinageOffice hour = ofZeros(12);
+        hour.pass(3);
+        hour.file(0, 0);
+        check.due("38: round at an hour", hour.checksum(), sumRound(13, 3 * 31 * 31 + 3));
+        LinageOffice pay = ofZeros(12);
+        pay.addPaper(0, 12, 1, 5, 0);
+        pay.run(0, 0, 1);
+        check.due("38: round at a pay", pay.checksum(), sumRound(13, 5 * 31 * 31));
+        pay.claim(0, 0, 4);
+        pay.settle(0, 0);
+        check.due("38: round at what was paid", pay.checksum(), sumRound(13, 5 * 31 * 31 + 4 * 31));
+    }
+
+    /** What 7 comes to over the rows of so many words and three more, if all are 0, and this more; in a long. */
+    private static long sumRound(int words, long more) {
+        BigInteger sum = BigInteger.valueOf(31).pow(words + 3).multiply(BigInteger.valueOf(7));
+        return sum.add(BigInteger.valueOf(more)).longValue();
+    }
+
+    private static void checksumOfMany(Check check) {
+        LinageOffice office = Scene.FULL.made();
+        BigInteger sum = BigInteger.valueOf(7);
+        for (int story = 0; story < 20; story++) {
+            for (int i = 0; i < office.length(story); i++) {
+                sum = next(sum, office.wordAt(story, i));
+            }
+            sum = next(sum, story == 19 ? 13 : 12);
+        }
+        for (int run = 0; run < 30; run++) {
+            sum = next(sum, office.pay(run));
+        }
+        for (int hand = 0; hand < 8; hand++) {
+            sum = next(sum, office.paid(hand));
+        }
+        sum = next(sum, 13);
+        check.due("38: it has many more signs than a long", sum.bitLength() > 600, true);
+        check.due("38: a full office", office.checksum(), sum.longValue());
+    }
+
+    private static BigInteger next(BigInteger sum, long row) {
+        return sum.multiply(BigInteger.valueOf(31)).add(BigInteger.valueOf(row));
     }
 
     private static void ranShare(Check check) {
