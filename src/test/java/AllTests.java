@@ -6,6 +6,7 @@ public final class AllTests {
     public static void main(String[] args) {
         Check check = new Check();
         FaceTest.runAll(check);
+        ExampleTest.runAll(check);
         StoryTest.runAll(check);
         PaperTest.runAll(check);
         SettingTest.runAll(check);

@@ -104,9 +104,10 @@ final class EmptyTest {
             edges.refused("22: run" + told, Edges.UNSUPPORTED, office -> office.run(0, paper, 99));
             edges.refused("22: run of a version" + told, Edges.UNSUPPORTED, office -> office.run(1, paper, 1));
             // What was asked before of a story with words must not be left over.
-            edges.answers("16: lines behind others" + told, 0, office -> office.lines(2, paper) * 0 + office.lines(0, paper));
-            edges.answers("17: badness behind others" + told, 0,
-                office -> office.badness(2, paper) * 0 + office.badness(0, paper));
+            edges.answers("16: lines of others, and" + told, "2, 0",
+                office -> office.lines(2, paper) + ", " + office.lines(0, paper));
+            edges.answers("17: badness of others, and" + told, "9, 0",
+                office -> office.badness(2, paper) + ", " + office.badness(0, paper));
         }
     }
 

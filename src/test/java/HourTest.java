@@ -95,7 +95,8 @@ final class HourTest {
         int[] hours = {0, 1, 12, 13, 23, 24, 400};
         for (int hour : hours) {
             Scene ran = at(hour, true).and(office -> office.run(0, 0, 1));
-            new Edges(check, ran).refused("22: at once, in hour " + hour, Edges.UNSUPPORTED, office -> office.run(0, 1, 1));
+            new Edges(check, ran).refused("22: at once, in hour " + hour, Edges.UNSUPPORTED,
+                office -> office.run(0, 1, 1));
             for (int later = 1; later <= 11; later += 5) {
                 int hours11 = later;
                 new Edges(check, ran.and(office -> office.pass(hours11))).refused(

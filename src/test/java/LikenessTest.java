@@ -13,6 +13,8 @@ final class LikenessTest {
         shingles(check);
         shinglesAfterChanges(check);
         likeness(check);
+        likenessOfNeighbours(check);
+        likenessOfNothing(check);
         likenessWrong(check);
         sources(check);
         areOne(check);
@@ -21,7 +23,9 @@ final class LikenessTest {
         known(check);
         first(check);
         factsWrong(check);
+        factsOfLongStories(check);
         contradictions(check);
+        contradictionsAtEnds(check);
     }
 
     private static void padding(Check check, String told, String kinds, String due) {
@@ -142,6 +146,57 @@ final class LikenessTest {
         office.correct(6, 0, 4);
         check.due("32: a version corrected", office.likeness(6, 0), 25);
         check.due("32: the corrected one and the other", office.likeness(6, 1), 66);
+    }
+
+    /** Shingles that differ in one word, and by one number there, are unlike. */
+    private static void likenessOfNeighbours(Check check) {
+        int[][] rows = {{0, 1, 2}, {0, 1, 3}, {0, 2, 2}, {1, 1, 2}, {1, 0, 0}, {0, 29, 29}, {0, 29, 28}, {29, 29, 29}};
+        LinageOffice office = Desk.withKinds("ffffffffffffffffffffffffffffff");
+        for (int[] row : rows) {
+            Desk.story(office, 0, row);
+        }
+        for (int i = 0; i < rows.length; i++) {
+            for (int k = 0; k < rows.length; k++) {
+                check.due("32: neighbours " + i + ", " + k, office.likeness(i, k), i == k ? 100 : 0);
+            }
+        }
+        for (int far = 1; far < 30; far++) {
+            LinageOffice other = Desk.withKinds("ffffffffffffffffffffffffffffff");
+            Desk.story(other, 0, 0, 1, 0);
+            Desk.story(other, 0, 0, 0, far);
+            Desk.story(other, 0, 1, 0, 0);
+            Desk.story(other, 0, 0, far, 29);
+            check.due("32: the second word and the last, " + far, other.likeness(0, 1), 0);
+            check.due("32: the first word and the second, " + far, other.likeness(2, 3), 0);
+            check.due("32: the second word and the last at once, " + far, other.likeness(0, 3), 0);
+        }
+        // 0 1 2, 1 2 0, 2 0 1, 0 1 3; and 0 1 3 alone, and 0 1 2 alone.
+        int both = Desk.story(office, 1, 0, 1, 2, 0, 1, 3);
+        check.due("32: one of four, behind a neighbour", office.likeness(both, 1), 25);
+        check.due("32: one of four, the other way round", office.likeness(1, both), 25);
+        check.due("32: one of four, ahead of a neighbour", office.likeness(both, 0), 25);
+    }
+
+    /** A story without shingles has none of words 0 either, and none has a shingle that it had before. */
+    private static void likenessOfNothing(Check check) {
+        LinageOffice office = Desk.withKinds("ff");
+        office.file(0, 0);
+        Desk.story(office, 0, 0, 0);
+        Desk.story(office, 0, 0, 0, 0);
+        Desk.story(office, 0, 0, 0, 0, 1);
+        for (int none = 0; none < 2; none++) {
+            for (int some = 2; some < 4; some++) {
+                check.due("32: no shingles, " + none + " and " + some, office.likeness(none, some), 0);
+                check.due("32: no shingles, " + some + " and " + none, office.likeness(some, none), 0);
+            }
+        }
+        check.due("32: one of two", office.likeness(2, 3), 50);
+        office.correct(3, 3, 0);
+        check.due("31: a shingle less", office.shingles(3), 1);
+        check.due("32: one of one", office.likeness(2, 3), 100);
+        Desk.story(office, 0, 0, 0, 1);
+        check.due("32: a shingle that it has no more", office.likeness(3, 4), 0);
+        check.due("32: a shingle that it has no more, the other way round", office.likeness(4, 3), 0);
     }
 
     private static void likenessWrong(Check check) {
@@ -285,6 +340,34 @@ final class LikenessTest {
         LinageOffice empty = Desk.withKinds("e");
         check.thrown("35: no fact ahead of no story", UnsupportedOperationException.class, () -> empty.known(0));
         check.thrown("36: no fact ahead of no story", UnsupportedOperationException.class, () -> empty.first(0));
+    }
+
+    /** Sixty words, and the fact the first of them, the last of them, or none. */
+    private static void factsOfLongStories(Check check) {
+        LinageOffice office = Desk.withKinds("fffe");
+        office.file(0, 0);
+        for (int i = 0; i < 60; i++) {
+            office.write(0, i == 0 ? 0 : i == 59 ? 1 : 3);
+        }
+        check.due("36: the first of sixty", office.first(0), 0);
+        check.due("36: the last of sixty", office.first(1), 0);
+        check.due("35: the first of sixty", office.known(0), 0);
+        check.due("35: the last of sixty", office.known(1), 0);
+        check.thrown("36: none of sixty", NoSuchElementException.class, () -> office.first(2));
+        check.thrown("35: none of sixty", NoSuchElementException.class, () -> office.known(2));
+        check.due("37: the first and the last of sixty", office.contradictions(0), 1);
+    }
+
+    private static void contradictionsAtEnds(Check check) {
+        LinageOffice office = Desk.withKinds("ff");
+        Desk.story(office, 3, 0);
+        check.due("37: one fact", office.contradictions(3), 0);
+        Desk.story(office, 3, 1);
+        check.due("37: the only words of two stories", office.contradictions(3), 1);
+        Desk.story(office, 4, 0, 1);
+        check.due("37: two words of one story", office.contradictions(4), 1);
+        Desk.story(office, 5, 1, 1);
+        check.due("37: one fact twice", office.contradictions(5), 0);
     }
 
     private static void contradictions(Check check) {

@@ -39,8 +39,8 @@ final class LimitTest {
 
     private void thirtyWords() {
         limit("2: words", 30, Scene.FRESH, (office, n) -> office.addWord(1 + n % 12, "fetqh".charAt(n % 5), n % 10));
-        Scene full = Scene.READY;
-        Edges edges = new Edges(check, full);
+        limit("2: facts", 30, Scene.FRESH, (office, n) -> office.addWord(12, 'f', n % 10));
+        Edges edges = new Edges(check, Scene.READY);
         for (char kind : "fetqh".toCharArray()) {
             edges.refused("2: a 31st word of kind " + kind, Edges.STATE, office -> office.addWord(12, kind, 9));
         }
@@ -48,6 +48,8 @@ final class LimitTest {
 
     private void eightHands() {
         limit("3: hands", 8, Scene.FRESH, (office, n) -> office.addHand());
+        new Edges(check, Scene.FULL).refused("3: a ninth hand, where some were paid", Edges.STATE,
+            LinageOffice::addHand);
     }
 
     private void twentyStories() {

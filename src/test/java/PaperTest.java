@@ -133,6 +133,10 @@ final class PaperTest {
         lines(check, 12, 4 + 9, 12, 10, 1, 9, 2, 8, 3, 7, 4, 6, 5, 5, 6, 4, 7, 3, 8, 2, 9, 1, 1, 10, 1);
         // Two words a line leave 3 once; one word behind, a line more, they leave 2 once and 1 five times: as bad.
         lines(check, 7, 9, 12, 10, 1, 9, 2, 8, 3, 7, 4, 6, 5, 5, 3, 8, 1);
+        // Ahead of the last line, two words a line leave 9 once; one word behind, with a line more, they leave 2 once,
+        // 1 thirteen times and 8 once: as bad, so it is the one with fewer lines.
+        lines(check, 15, 81, 13, 11, 1, 10, 2, 9, 3, 8, 4, 7, 5, 6, 6, 5, 7, 4, 8, 3, 9, 2, 10, 1, 2, 9, 3, 8, 4, 7, 5,
+            12);
     }
 
     private static void fits(Check check) {

@@ -24,6 +24,7 @@ final class RefusalTest {
         test.runForTwoReasons();
         test.claim();
         test.facts();
+        test.notInStrike();
     }
 
     private static String told(String call, int... arguments) {
@@ -55,7 +56,8 @@ final class RefusalTest {
             int hands = isFull ? 8 : 2;
             int hand = new int[] {0, hands - 1, -1, hands}[i / 4 % 4];
             int event = new int[] {0, 9, -1, 10}[i / 16];
-            inStrike(isFull, isStrike).answersOrRefused(told("4: full, strike, hand, event", i % 2, i / 2 % 2, hand, event),
+            String told = told("4: full, strike, hand, event", i % 2, i / 2 % 2, hand, event);
+            inStrike(isFull, isStrike).answersOrRefused(told,
                 !isIn(hand, 0, hands - 1) ? Edges.INDEX : !isIn(event, 0, 9) ? Edges.ARGUMENT
                     : isStrike ? Edges.UNSUPPORTED : isFull ? Edges.STATE : null,
                 office -> office.file(hand, event));
@@ -70,7 +72,8 @@ final class RefusalTest {
             int stories = isFull ? 20 : 4;
             int hand = new int[] {0, hands - 1, -1, hands}[i / 4 % 4];
             int story = new int[] {0, stories - 1, -1, stories}[i / 16];
-            inStrike(isFull, isStrike).answersOrRefused(told("5: full, strike, hand, story", i % 2, i / 2 % 2, hand, story),
+            String told = told("5: full, strike, hand, story", i % 2, i / 2 % 2, hand, story);
+            inStrike(isFull, isStrike).answersOrRefused(told,
                 !isIn(hand, 0, hands - 1) || !isIn(story, 0, stories - 1) ? Edges.INDEX
                     : isStrike ? Edges.UNSUPPORTED : isFull ? Edges.STATE : null,
                 office -> office.fork(hand, story));
@@ -255,5 +258,25 @@ final class RefusalTest {
             edges.refused("35: word " + i, want, office -> office.known(word));
             edges.refused("36: word " + i, want, office -> office.first(word));
         }
+    }
+
+    /** A strike keeps from filing alone, and lasts till it is told to be over. */
+    private void notInStrike() {
+        Edges edges = new Edges(check, STRIKE);
+        edges.answers("2: in a strike", 6, office -> office.addWord(1, 'f', 0));
+        edges.answers("3: in a strike", 2, LinageOffice::addHand);
+        edges.answers("6: in a strike", 7, office -> office.write(0, 0));
+        edges.answers("7: in a strike", 1, office -> office.correct(0, 1, 0));
+        edges.answers("14: in a strike", 3, office -> office.addPaper(0, 12, 1, 0, 0));
+        edges.answers("21: in a strike", false, office -> office.setExclusive(0, true));
+        edges.answers("22: in a strike", 1, office -> office.run(0, 0, 9));
+        edges.answers("26: in a strike", 4, office -> office.claim(1, 0, 9));
+        edges.answers("27: in a strike", 17, office -> office.settle(1, 0));
+        Edges later = new Edges(check, STRIKE.and(office -> office.pass(99)));
+        later.refused("4: a strike lasts", Edges.UNSUPPORTED, office -> office.file(0, 0));
+        later.refused("5: a strike lasts", Edges.UNSUPPORTED, office -> office.fork(0, 0));
+        Edges over = new Edges(check, STRIKE.and(office -> office.setStrike(false)));
+        over.answers("4: a strike that is over", 4, office -> office.file(0, 0));
+        over.answers("5: a strike that is over", 4, office -> office.fork(0, 0));
     }
 }
