@@ -869,20 +869,16 @@ public final class LinageOffice {
             shingleCount++;
         }
 
+        // Both rows rise, so what was passed in the other one is never looked at again.
         private int sharedWith(Story other) {
             int both = 0;
-            int mine = 0;
             int theirs = 0;
-            while (mine < shingleCount && theirs < other.shingleCount) {
-                int difference = shingleCodes[mine] - other.shingleCodes[theirs];
-                if (difference == 0) {
-                    both++;
-                }
-                if (difference <= 0) {
-                    mine++;
-                }
-                if (difference >= 0) {
+            for (int mine = 0; mine < shingleCount; mine++) {
+                while (theirs < other.shingleCount && other.shingleCodes[theirs] < shingleCodes[mine]) {
                     theirs++;
+                }
+                if (theirs < other.shingleCount && other.shingleCodes[theirs] == shingleCodes[mine]) {
+                    both++;
                 }
             }
             return both;

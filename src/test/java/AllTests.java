@@ -6,6 +6,7 @@ public final class AllTests {
     public static void main(String[] args) {
         Check check = new Check();
         FaceTest.runAll(check);
+        language(check);
         ExampleTest.runAll(check);
         StoryTest.runAll(check);
         PaperTest.runAll(check);
@@ -21,9 +22,19 @@ public final class AllTests {
         HourTest.runAll(check);
         RandomRunsTest.runAll(check);
         RoomTest.runAll(check);
+        check.eachPromiseWasAsked();
         System.out.println(check.passed() + " passed, " + check.failed() + " failed");
         if (check.failed() != 0) {
             System.exit(1);
+        }
+    }
+
+    /** A java that is put together without javac can't read the source; all else is asked there too. */
+    private static void language(Check check) {
+        if (ModuleLayer.boot().findModule("jdk.compiler").isPresent()) {
+            LanguageTest.runAll(check);
+        } else {
+            System.out.println("not asked: LanguageTest, this java has no compiler");
         }
     }
 }

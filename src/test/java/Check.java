@@ -1,5 +1,10 @@
-/** Counts answers that are as due, and prints those that are not. */
+import java.util.TreeMap;
+
+/** Counts answers that are as due, and prints those that are not; and counts how often each promise was asked. */
 final class Check {
+    private static final int PROMISES = 41;
+
+    private final TreeMap<Integer, Integer> askedOf = new TreeMap<>();
     private int passed;
     private int failed;
 
@@ -19,15 +24,23 @@ final class Check {
         tell(call, got.equals(want), got, want);
     }
 
-    /** Asks for an exception of just that class, not of one below it. */
+    /** Asks for an exception of just that class, not of one below it, and that the machine did not throw it. */
     void thrown(String call, Class<? extends RuntimeException> want, Runnable tried) {
         String got = "nothing";
         try {
             tried.run();
         } catch (RuntimeException e) {
-            got = e.getClass().getName();
+            boolean isOfMachine = "/ by zero".equals(e.getMessage());
+            got = isOfMachine ? "the machine's throw" : e.getClass().getName();
         }
         tell(call, got.equals(want.getName()), got, want.getName());
+    }
+
+    /** A test of a promise begins its text with the promise's number and a colon. */
+    void eachPromiseWasAsked() {
+        for (int promise = 1; promise <= PROMISES; promise++) {
+            due("tests of promise " + promise, askedOf.getOrDefault(promise, 0) > 0, true);
+        }
     }
 
     int passed() {
@@ -39,6 +52,10 @@ final class Check {
     }
 
     private void tell(String call, boolean isDue, Object got, Object want) {
+        int colon = call.indexOf(':');
+        if (colon > 0 && call.substring(0, colon).chars().allMatch(Character::isDigit)) {
+            askedOf.merge(Integer.parseInt(call.substring(0, colon)), 1, Integer::sum);
+        }
         if (isDue) {
             passed++;
             return;

@@ -64,14 +64,18 @@ final class FaceTest {
         for (Method method : LinageOffice.class.getDeclaredMethods()) {
             if (!Modifier.isPrivate(method.getModifiers())) {
                 shown.add(told(method));
-                check.due(method.getName() + " is public", Modifier.isPublic(method.getModifiers()), true);
+                check.due(method.getName() + " is public and no more", method.getModifiers(), Modifier.PUBLIC);
             }
         }
         check.dueText("the methods", shown.toString(), wanted.toString());
-        check.due("the class is final", Modifier.isFinal(LinageOffice.class.getModifiers()), true);
-        check.due("the class is public", Modifier.isPublic(LinageOffice.class.getModifiers()), true);
+        check.due("the class is public, final and no more", LinageOffice.class.getModifiers(),
+            Modifier.PUBLIC | Modifier.FINAL);
+        check.dueText("the package", LinageOffice.class.getPackageName(), "");
+        check.dueText("what it extends", LinageOffice.class.getSuperclass().getName(), "java.lang.Object");
+        check.due("interfaces", LinageOffice.class.getInterfaces().length, 0);
         constructors(check);
         hidden(check);
+        inside(check);
     }
 
     private static void constructors(Check check) {
@@ -79,6 +83,16 @@ final class FaceTest {
         check.due("how many constructors", made.length, 1);
         check.due("the constructor's parameters", made[0].getParameterCount(), 0);
         check.due("the constructor is public", Modifier.isPublic(made[0].getModifiers()), true);
+        check.due("the constructor's exceptions", made[0].getExceptionTypes().length, 0);
+    }
+
+    /** Classes inside are static, and private or package-visible. */
+    private static void inside(Check check) {
+        for (Class<?> type : LinageOffice.class.getDeclaredClasses()) {
+            int how = type.getModifiers();
+            check.due(type.getName() + " is static", Modifier.isStatic(how), true);
+            check.due(type.getName() + " is seen", Modifier.isPublic(how) || Modifier.isProtected(how), false);
+        }
     }
 
     private static void hidden(Check check) {
