@@ -63,7 +63,7 @@ final class SettingTest {
         }
     }
 
-    /** The least badness times 1000, and the fewest lines with it; a bit of a way tells of a line's end at that word. */
+    /** The least badness times 1000, and the fewest lines with it; a way has a bit for each word that ends a line. */
     private long bestOfAll(int size, int measure) {
         long best = Long.MAX_VALUE;
         for (int way = 0; way < 1 << size - 1; way++) {

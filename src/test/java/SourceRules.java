@@ -162,9 +162,12 @@ final class SourceRules extends TreeScanner<Void, Void> {
     }
 
     private boolean isInside(String name) {
-        ClassTree outer = (ClassTree) unit.getTypeDecls().get(0);
-        return outer.getMembers().stream()
-            .anyMatch(member -> member instanceof ClassTree && ((ClassTree) member).getSimpleName().contentEquals(name));
+        for (Tree member : ((ClassTree) unit.getTypeDecls().get(0)).getMembers()) {
+            if (member instanceof ClassTree && ((ClassTree) member).getSimpleName().contentEquals(name)) {
+                return true;
+            }
+        }
+        return false;
     }
 
     @Override
